@@ -94,7 +94,7 @@ public final class PromiseTest {
             times("alley 1 1 1;", 8) + "town;alley 1 1 1"};
         for (String text : sound) due("P4 '" + text + "'", faultOf(text), NONE);
         Object[][] faults = {{"", 0}, {"   ", 3}, {";", 0}, {" ;", 1}, {"town;", 5}, {"town; ", 6}, {"town;;", 5},
-            {"Town", 0}, {"tOwn", 0}, {"towns", 0}, {"tow", 0}, {"town town", 5}, {"town5", 4}, {"town 5", 5},
+            {"Town", 0}, {"tOwn", 0}, {"towns", 0}, {"townz", 0}, {"towna", 0}, {"town`", 4}, {"town{", 4}, {"cap 5/", 5}, {"cap 5:", 5}, {"tow", 0}, {"town town", 5}, {"town5", 4}, {"town 5", 5},
             {"town.", 4}, {"town\t", 4}, {"\ntown", 0}, {"\u00e9", 0}, {"\u0000", 0}, {"square 3", 0}, {"5", 0},
             {"gardenorchard", 0}, {"garden", 6}, {"garden ", 7}, {"garden 1", 8}, {"garden 1 2", 10},
             {"garden 1 2;", 10}, {"garden 21 1 1", 7}, {"garden 1 21 1", 9}, {"garden 1 1 100", 11},
@@ -246,11 +246,12 @@ public final class PromiseTest {
         due("P8 ring", ring.day(), 0);
         due("P8 water of 0", ring.street(0, 3), 19);
         due("P8 water of 1", ring.street(1, 3), 19);
-        // What was above the cap already runs, too: 50 and 8 leave 30, 28 run; nothing comes on to 2.
+        // Water above the cap stays while nothing falls there: 2 and 8 on 1 are 10, nothing runs to 2.
         RainBallot above = of("alley 0 0 50;alley 0 0 0;alley 0 0 90;slope 0 1;slope 1 2;laundry 0 1 60");
         above.hose(1, 2);
         due("P8 the driest is 1", above.day(), 1);
         due("P8 water of 2 stays above the cap", above.street(2, 3), 89);
+        // What was above the cap already runs, too: 47 leave 30, then 28 and 17 do, then 90 and 15 do.
         RainBallot over = of("orchard 20 1 39;alley 0 0 28;alley 0 0 90;slope 0 1;slope 1 2");
         due("P8 over", over.day(), 0);
         due("P8 water of 0", over.street(0, 3), 29);
@@ -263,6 +264,12 @@ public final class PromiseTest {
         RainBallot empty = new RainBallot();
         for (int i = 1; i <= 400; i++) due("P8 on the square", empty.day(), NONE);
         due("P8 day 400", empty.count(1), 400);
+        // More calls than are promised, but the bound is the document's.
+        for (int i = 401; i <= 999; i++) due("P8 on the square", empty.day(), NONE);
+        due("P8 behind day 999", empty.day(), FULL);
+        due("P8 it is day 999", empty.count(1), 999);
+        for (int i = 7; i >= 0; i--) due("P8 what was refused can't be undone", empty.undo(), i);
+        due("P8 8 days less", empty.count(1), 991);
     }
 
     private static void promise9() {
@@ -424,6 +431,9 @@ public final class PromiseTest {
         due("P16 the least of the others", even.carry(2), 2);
         RainBallot strong = of("alley 0 0 9;garden 9 1 0;garden 9 1 0;garden 9 1 0;garden 9 3 0");
         due("P16 the fewest go before the least", strong.carry(0), 16);
+        // 0 gives its own 20 to 1, the driest: 7 times 3 are needed.
+        RainBallot all = of("garden 0 20 9;" + times("garden 9 3 0;", 6) + "garden 9 3 0");
+        due("P16 all others", all.carry(0), 254);
         RainBallot tie = of("garden 9 2 0;garden 9 2 0");
         due("P16 a tie is not enough", tie.carry(0), 2);
         due("P16 nothing changed", tie.street(1, 5), 1);
@@ -448,6 +458,11 @@ public final class PromiseTest {
         ring.day();
         due("P17 as it is now", ring.street(0, 3), 29);
         due("P17 7 of 8 run", ring.reach(2), 7);
+        RainBallot chain = of("cap 5;inches 1;" + times("alley 0 0 5;", 7) + "garden 6 1 5");
+        tell(chain, "slope 0 1;slope 1 2;slope 2 3;slope 3 4;slope 4 5;slope 5 6;slope 6 7");
+        due("P17 down all eight", chain.reach(7), 255);
+        tell(chain, "slope 7 0");
+        for (int s = 0; s < 8; s++) due("P17 all round, " + s, chain.reach(s), 255);
     }
 
     private static void promise18() {
@@ -485,6 +500,15 @@ public final class PromiseTest {
         RainBallot run = of("cap 5;inches 20;garden 4 0 0;alley 4 0 0;alley 4 0 0;slope 0 1;slope 1 2");
         due("P18 with run-off", run.month(1, NONE), 3);
         due("P18 by 0", run.month(1, 0), 0);
+        // What falls takes what was above the cap already away; it can't stay dry.
+        RainBallot high = of("cap 5;orchard 20 0 99");
+        due("P18 it must rain", high.month(1, NONE), 0);
+        due("P18 on a street", high.month(1, 0), 0);
+        RainBallot poor = of("garden 20 0 0;garden 7 0 0");
+        due("P18 by 1", poor.month(1, 0), 1);
+        tell(poor, "town;garden 20 0 0;garden 20 0 0");
+        due("P18 none has what it wants", poor.month(1, NONE), 0);
+        due("P18 and the first is the row", poor.month(1, 0), 0);
         RainBallot eight = of(times("garden 20 1 0;", 7) + "orchard 20 1 0");
         due("P18 with eight streets", eight.month(4, NONE), 1);
         due("P18 the first of them", eight.month(4, 0), 0);
