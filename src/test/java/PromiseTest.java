@@ -1,46 +1,5 @@
 /** Each promise of the document by cases worked out by hand. */
-public final class PromiseTest {
-    private static final int NONE = RainBallot.NONE, UNKNOWN = RainBallot.UNKNOWN, OUTSIDE = RainBallot.OUTSIDE,
-        NOT = RainBallot.NOT, FULL = RainBallot.FULL;
-    private static int wrong = 0;
-    private static int asked = 0;
-
-    private static void due(String what, long got, long want) {
-        asked++;
-        if (got != want) {
-            wrong++;
-            System.out.println(what + ": answered " + got + ", due is " + want);
-        }
-    }
-
-    private static void write(RainBallot x, String text) {
-        for (int i = 0; i < text.length(); i++) x.write(text.charAt(i));
-    }
-
-    private static RainBallot of(String text) {
-        RainBallot x = new RainBallot();
-        tell(x, text);
-        return x;
-    }
-
-    private static void tell(RainBallot x, String text) {
-        write(x, text);
-        due("fault of '" + text + "'", x.fault(), NONE);
-        if (x.town() < 1) due("town of '" + text + "'", 0, 1);
-    }
-
-    private static int faultOf(String text) {
-        RainBallot x = new RainBallot();
-        write(x, text);
-        return x.fault();
-    }
-
-    private static String times(String text, int n) {
-        StringBuilder all = new StringBuilder();
-        for (int i = 0; i < n; i++) all.append(text);
-        return all.toString();
-    }
-
+public final class PromiseTest extends TestKit {
     // Votes now: 0 to itself (5), 1 to itself (4: 9 of 16), 2 none, 3 to 2 (7), 4 to 2 (3).
     private static final String FIVE = "cap 12;inches 9;garden 10 5 3;orchard 8 4 9;alley 6 9 1;laundry 9 7 4;"
         + "garden 2 3 8;slope 0 3;slope 3 2;slope 2 0";
