@@ -448,6 +448,20 @@ public final class DoneEdgesTest extends TestKit {
         due(x.street(0, 6), 5);
     }
 
+    @Says("8 at most")
+    static void promise11_theEighthStreet() {
+        RainBallot x = of(times("alley0 0 9;", 7) + "garden20 5 0");
+        String first = state(x);
+        x.poll(7, 9);
+        x.hose(7, 20);
+        x.day();
+        x.undo();
+        x.undo();
+        due(x.undo(), 0);
+        same("undo", state(x), first);
+        due(x.street(7, 2) * 100 + x.street(7, 3), 500);
+    }
+
     // ---- promise 12
 
     @Says("UNKNOWN: no such k.")
@@ -596,6 +610,21 @@ public final class DoneEdgesTest extends TestKit {
         due(x.count(6), 0);
         due(x.street(0, 2), 20);
         water(x, 7, 20);
+    }
+
+    @Says("8 at most")
+    static void promise13_theEighthStreet() {
+        RainBallot x = of(times("alley0 0 9;", 7) + "garden20 5 0");
+        String first = state(x);
+        x.keep(0);
+        x.poll(7, 9);
+        x.hose(7, 20);
+        x.keep(1);
+        x.day();
+        x.back(0);
+        same("back", state(x), first);
+        x.back(1);
+        due(x.street(7, 2) * 100 + x.street(7, 3), 920);
     }
 
     @Says("All as it is (but THE TEXT, SEEN, what can be undone) is kept")

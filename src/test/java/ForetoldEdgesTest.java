@@ -53,6 +53,16 @@ public final class ForetoldEdgesTest extends TestKit {
         for (int n = 1; n <= 30; n++) due("day " + n, x.day(), told[n]);
     }
 
+    @Says("8 at most")
+    static void promise14_theEighthStreet() {
+        RainBallot x = of(times("alley0 0 9;", 7) + "garden20 5 0");
+        foretold(x, 7, () -> x.where(1));
+        foretold(x, NONE, () -> x.where(2));
+        foretold(x, 7, () -> x.where(3));
+        x.poll(7, 0);
+        foretold(x, NONE, () -> x.where(1));
+    }
+
     // ---- promise 15
 
     @Says("WET behind n DAYS (0 .. 30): WATER of a STREET.")
@@ -97,6 +107,15 @@ public final class ForetoldEdgesTest extends TestKit {
         RainBallot x = of("alley 0 0 5");
         refused(x, UNKNOWN, () -> x.wet(1, -1), () -> x.wet(-1, 31));
         refused(x, OUTSIDE, () -> x.wet(0, 31));
+    }
+
+    @Says("8 at most")
+    static void promise15_theEighthStreet() {
+        RainBallot x = of(times("alley0 0 9;", 7) + "garden20 5 0");
+        foretold(x, 0, () -> x.wet(7, 0));
+        foretold(x, 7, () -> x.wet(7, 1));
+        foretold(x, 8, () -> x.wet(6, 1));
+        refused(x, UNKNOWN, () -> x.wet(8, 1));
     }
 
     // ---- promise 16

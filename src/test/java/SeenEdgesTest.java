@@ -166,6 +166,17 @@ public final class SeenEdgesTest extends TestKit {
         foretold(x, 0, () -> x.polls(0));
     }
 
+    @Says("8 at most")
+    static void promise21_theEighthStreet() {
+        RainBallot x = of(times("alley0 0 9;", 7) + "garden20 5 0");
+        x.seen(7, 1);
+        foretold(x, ANY - 1, () -> x.polls(7));
+        foretold(x, ANY, () -> x.polls(0));
+        x.poll(7, 0);
+        foretold(x, 0, () -> x.polls(0));
+        refused(x, UNKNOWN, () -> x.polls(8));
+    }
+
     // ---- promise 22
 
     @Says("CHANCE (the STREET may be NONE). UNKNOWN; OUTSIDE.")
@@ -256,6 +267,23 @@ public final class SeenEdgesTest extends TestKit {
         odds(x, 7, 1, 9, 100000000);
         odds(x, 7, 9, 4782969, 100000000);
         odds(x, NONE, 10, 1, 1);
+    }
+
+    @Says("CHANCE: the odds that it is CARRIED now")
+    static void promise22_asItIsNow() {
+        // On the second day 0 has what it wants, and its votes go to 1.
+        String text = "garden 5 5 0;alley 0 0 3";
+        RainBallot x = of(text);
+        due(x.chance(0, 3, 0), 7);
+        due(x.where(2), 1);
+        due(x.chance(0, 3, 0), 7);
+        due(x.chance(1, 3, 0), 0);
+        x.day();
+        due(x.chance(0, 3, 0), 0);
+        due(x.chance(1, 3, 0), 7);
+        x.undo();
+        due(x.chance(0, 3, 1), 10);
+        due(of(text).chance(1, 3, 1), 1);
     }
 
     // ---- promise 23

@@ -379,7 +379,8 @@ public final class ToldEdgesTest extends TestKit {
     static void promise04_thePlaceIs0To160() {
         faultAt("^x" + times(" ", 159), "^" + times("x", 160), "^" + times("5", 160));
         faultAt("town" + times(" ", 155) + "^5", "town" + times(" ", 155) + ";^", "town" + times(" ", 154) + "^55");
-        sound("town" + times(" ", 156));
+        faultAt(times(" ", 155) + "cap ^4", times(" ", 157) + "cap^", times(" ", 153) + "cap ^100", times(" ", 155) + "^towna");
+        sound("town" + times(" ", 156), times(" ", 156) + "town", times(" ", 155) + "cap 5", times(" ", 154) + "cap 99");
     }
 
     @Says("The place of the FAULT (the letter with which the TOKEN begins, or the length); NONE.")
