@@ -450,6 +450,17 @@ public final class ForetoldEdgesTest extends TestKit {
         row(x, 2, 1, 1);
     }
 
+    @Says("STREETS on which it would rain, one a DAY from now on")
+    static void promise18_itMustRainOnAStreet() {
+        // Left dry it would have more than the 40 that it wants; rain takes what is above the CAP away.
+        row(of("cap 5;orchard 20 0 99"), 0, 0);
+        row(of("cap 40;orchard 20 0 99"), 0, 0);
+        row(of("cap 41;orchard 20 0 99"), 1, 0);
+        row(of("cap 5;orchard 20 0 99;alley 20 0 0"), 1, 1);
+        row(of("cap 5;orchard 20 0 99;orchard 20 0 99"), 1, 0);
+        row(of("cap 5;orchard 20 0 99;orchard 20 0 99"), 1, 0, 0);
+    }
+
     @Says("all that is above the CAP then runs")
     static void promise18_withRunOff() {
         row(of("cap 5;inches 20;garden 4 0 0;alley 4 0 0;alley 4 0 0;slope 0 1;slope 1 2"), 3, 0);

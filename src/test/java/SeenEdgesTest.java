@@ -331,6 +331,19 @@ public final class SeenEdgesTest extends TestKit {
         due(new RainBallot().count(5), 0);
     }
 
+    @Says("all WATER together")
+    static void promise23_onlyOfStreetsThatAre() {
+        RainBallot x = of(times("alley0 0 99;", 7) + "alley0 0 99");
+        due(x.count(4), 792);
+        tell(x, "town;alley 0 0 3;alley 9 0 4");
+        due(x.count(0), 2);
+        due(x.count(4), 7);
+        due(x.count(5), 1);
+        tell(x, "town");
+        due(x.count(4), 0);
+        due(x.count(5), 0);
+    }
+
     @Says("6 where it rained on the latest DAY (NONE)")
     static void promise23_whereItRained() {
         RainBallot x = of(times("alley0 0 9;", 7) + "garden20 1 0");
